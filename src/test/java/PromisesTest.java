@@ -14,6 +14,7 @@ public final class PromisesTest {
         end();
         tell();
         tellFaults();
+        tellCutOff();
         fault();
         crew();
         limit();
@@ -227,6 +228,19 @@ public final class PromisesTest {
         Check.faults(x, "crew\r3;", 1, 4, 0);
         Check.faults(x, "crew 3\u00bb;", 1, 6, 0);
         Check.faults(x, "crew 3\u0000;", 1, 6, 0);
+        for (String word : new String[] {"xrew", "drew", "crewz", "acrew", "creww", "mimit", "limid", "lace", "rac"}) {
+            Check.faults(x, word + " 3;", 1, 0, 0);
+        }
+        Check.faults(x, "race 0 : 1 my 3;", 1, 11, 0);
+        Check.faults(x, "race 0 : 1 by 3 op;", 1, 16, 0);
+        Check.faults(x, "race 0 : 1 by 3 town;", 1, 16, 0);
+        Check.faults(x, "crew`3;", 1, 4, 0);
+        Check.faults(x, "crew{3;", 1, 4, 0);
+        Check.faults(x, "crew 3/;", 1, 6, 0);
+        Check.faults(x, "crew 3:", 1, 6, 0);
+        Check.faults(x, "crew 3 crew", 1, 7, 0);
+        Check.faults(x, "race 0; 1 by 3;", 1, 6, 0);
+        Check.faults(x, "race 0 crew 1 by 3;", 1, 7, 0);
         Check.faults(x, "limit 3;limit;", 1, 13, 1);
         Check.faults(x, "limit 3 limit 4;", 1, 8, 0);
         Check.faults(x, "race :", 1, 5, 0);
@@ -288,6 +302,30 @@ public final class PromisesTest {
         Check.faults(z, "limit 4; race 0 : 1 by 0;", 4, 9, 1);
         due("count(2)", z.count(2), 10);
         Check.tells(z, "crew 2;race 0 : 1 by 0;", 2);
+    }
+
+    /** What was cut off by end() is not read, nor anything behind the 300th byte. */
+    private static void tellCutOff() {
+        SeatRacing x = with(5);
+        String[] texts = {"limit 12;", "limit 3;limit 4;", "race 0:1 by 1 up;", "limit -1;", "limit 3; "};
+        int[] cuts = {7, 10, 15, 7, 7};
+        int[] places = {7, 8, 14, 6, 7};
+        int[] statements = {0, 1, 0, 0, 0};
+        for (int i = 0; i < texts.length; i++) {
+            Check.put(x, Check.bytes(texts[i]));
+            due("end(" + cuts[i] + ")", x.end(cuts[i]), true);
+            due("tell() of " + texts[i] + ", cut off", x.tell(), -1);
+            due("fault(0) of " + texts[i], x.fault(0), 1 + 8 * places[i]);
+            due("fault(1) of " + texts[i], x.fault(1), statements[i]);
+        }
+        String long296 = "limit 3;".repeat(37);
+        Check.faults(x, long296 + "crew", 1, 300, 37);
+        Check.faults(x, long296 + "   7", 1, 299, 37);
+        Check.faults(x, long296 + "   -", 1, 299, 37);
+        Check.faults(x, long296 + "   x", 1, 299, 37);
+        Check.faults(x, "limit 3;".repeat(36) + " limit    55", 1, 300, 36);
+        Check.tells(x, "limit 3;".repeat(36) + "    limit 4;", 37);
+        due("count(2)", x.count(2), 4);
     }
 
     // promise 5
@@ -594,6 +632,14 @@ public final class PromisesTest {
             due("rank(" + wrong + ", 3)", x.rank(wrong, 3), -1);
             due("rank(0, " + wrong + ")", x.rank(0, wrong), -1);
         }
+        SeatRacing near = with(2, 2, 1, 1, 0);
+        due("ahead, though not surely", near.rank(0, 0), 1);
+        due("not surely with a limit of 10", near.rank(0, 1), 0);
+        near.limit(1);
+        due("1 is not above 1", near.rank(1, 2), 0);
+        near.race(2, 1, 1, 0);
+        due("1 is above a half", near.rank(1, 2), 1);
+        due("1 is above a half", near.rank(0, 1), 1);
         due("one alone", with(1).rank(0, 3), 1);
         due("one alone", with(1).rank(0, 0), 0);
         due("no race", with(6).rank(5, 3), 32);
@@ -679,6 +725,7 @@ public final class PromisesTest {
         due("next(1, 5)", x.next(1, 5), -1);
         due("five rowers", with(5).next(3, 0), -1);
         due("one rower", with(1).next(1, 0), -1);
+        nextIs(with(2), 1, 1, 2, 1, 1, 1);
         // Twelve races are no hindrance to think of one more.
         SeatRacing full = with(3);
         for (int race = 0; race < 12; race++) {

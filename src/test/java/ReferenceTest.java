@@ -133,8 +133,10 @@ public final class ReferenceTest {
             due("feed", x.feed(five[0], five[1], five[2], five[3], five[4]),
                 y.feed(five[0], five[1], five[2], five[3], five[4]));
         }
-        due("end(" + bytes.length + ")", x.end(bytes.length), y.end(bytes.length));
-        tellBoth(text);
+        // Often cut off in its middle, so that more bytes lie right behind the tape's end.
+        int n = random.nextInt(6) == 0 ? random.nextInt(bytes.length + 1) : bytes.length;
+        due("end(" + n + ")", x.end(n), y.end(n));
+        tellBoth(text.substring(0, n));
     }
 
     private void tellBoth(String text) {
