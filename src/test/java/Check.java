@@ -27,6 +27,16 @@ final class Check {
         System.out.println(what);
     }
 
+    static int looked() {
+        return looked;
+    }
+
+    /** Both numbers of a fraction. */
+    static void fraction(String call, long upper, long lower, long wantUpper, long wantLower) {
+        due(call + ", upper", upper, wantUpper);
+        due(call + ", lower", lower, wantLower);
+    }
+
     static void done(String test) {
         System.out.println(test + ": " + looked + " looked at, " + wrong + " wrong");
         if (wrong != 0) {
