@@ -4,12 +4,16 @@ import java.util.Random;
 /** Runs of calls, the same each time, on the class and on the reference; all answers must be alike. */
 public final class ReferenceTest {
     private static final int RUNS = 150;
-    private static final int CALLS = 200;
+    private static final int STEPS = 200;
+    private static final int MOST_CALLS = 512;
+    /** More than any step makes: a text of 300 bytes and all that is asked behind it, 12 races with it. */
+    private static final int STEP_CALLS = 100;
 
     private final Random random;
     private final String name;
-    private final SeatRacing x = new SeatRacing();
-    private final Reference y = new Reference();
+    private SeatRacing x = new SeatRacing();
+    private Reference y = new Reference();
+    private int calls = 0;
     private final int style;
 
     private ReferenceTest(int seed) {
@@ -27,17 +31,37 @@ public final class ReferenceTest {
         Check.done("ReferenceTest");
     }
 
+    /** Each is one call of x. */
     private void due(String call, long got, long want) {
+        calls++;
         Check.due(name + call, got, want);
     }
 
     private void due(String call, boolean got, boolean want) {
-        Check.due(name + call, got, want);
+        due(call, got ? 1 : 0, want ? 1 : 0);
+    }
+
+    /** What is told goes to new objects, since one that is used for more than 512 calls may answer as it likes. */
+    private void renew() {
+        Check.due(name + "calls of one object, " + calls + ", are not too many", calls <= MOST_CALLS, true);
+        Reference old = y;
+        x = new SeatRacing();
+        y = new Reference();
+        calls = 0;
+        due("crew(" + old.n + ")", x.crew(old.n), y.crew(old.n));
+        due("limit(" + old.limit + ")", x.limit(old.limit), y.limit(old.limit));
+        for (Reference.Race race : old.races) {
+            due(race.toString(), x.race(race.a(), race.b(), race.margin(), race.stream()),
+                y.race(race.a(), race.b(), race.margin(), race.stream()));
+        }
     }
 
     private void run() {
-        for (int call = 0; call < CALLS; call++) {
-            if (call == 0 || random.nextInt(60) == 0) {
+        for (int step = 0; step < STEPS; step++) {
+            if (calls > MOST_CALLS - STEP_CALLS) {
+                renew();
+            }
+            if (step == 0 || random.nextInt(60) == 0) {
                 int n = style == 0 ? 6 : random.nextInt(5) == 0 ? random.nextInt(10) - 2 : 2 + random.nextInt(5);
                 due("crew(" + n + ")", x.crew(n), y.crew(n));
             } else if (random.nextInt(3) == 0) {
@@ -253,9 +277,10 @@ public final class ReferenceTest {
             x.guess(a, b, stream, doubts, under), y.guess(a, b, stream, doubts, under));
     }
 
-    /** At a run's end, each number that can be asked for. */
+    /** At a run's end, each number that can be asked for, of like objects. */
     private void everyNumber() {
         for (int i = -1; i <= y.n; i++) {
+            renew();
             for (int what = -1; what < 5; what++) {
                 due("rank(" + i + ", " + what + ")", x.rank(i, what), y.rank(i, what));
             }
@@ -270,6 +295,7 @@ public final class ReferenceTest {
                 }
             }
         }
+        renew();
         for (int what = -1; what < 8; what++) {
             due("count(" + what + ")", x.count(what), y.count(what));
             due("odd(" + what + ")", x.odd(what), y.odd(what));
@@ -283,5 +309,6 @@ public final class ReferenceTest {
             due("even(" + k + ", 1)", x.even(k, 1), y.even(k, 1));
             due("next(" + k + ", 3)", x.next(k, 3), y.next(k, 3));
         }
+        renew();
     }
 }

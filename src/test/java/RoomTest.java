@@ -24,15 +24,16 @@ public final class RoomTest {
         x.crew(6);
         long answers = 0;
         for (int call = 1; call < CALLS; call++) {
-            switch (call % 8) {
-                case 0: answers += x.race(1 << call / 8 % 5, 32, call, call % 3 - 1); break;
+            switch (call % 9) {
+                case 0: answers += x.race(1 << call / 9 % 5, 32, call, call / 9 % 3 - 1); break;
                 case 1: answers += x.next(2, 3); break;
                 case 2: answers += x.odd(1); break;
                 case 3: answers += x.even(2, 0); break;
                 case 4: answers += x.fewest(2); break;
                 case 5: answers += x.feed(0x6c696d69, 0x7420373b, 0x20202020, 0x20202020, 0x20202020); break;
                 case 6: answers += x.tell(); break;
-                default: answers += x.suit(0, 1, false) + x.count(5); break;
+                case 7: answers += x.suit(0, 1, false); break;
+                default: answers += x.count(5); break;
             }
         }
         return answers;
